@@ -68,7 +68,7 @@ public final class AtTheDoorTest {
         BorderHouse house = new BorderHouse();
         int number = Scenes.announced(house, 0, 0, new int[] {1, 0, 0, 0, 0, 0});
         for (int wrong : WRONG_NUMBERS) {
-            CHECKS.tooLow("8 risk: consignment " + wrong, () -> house.risk(wrong));
+            CHECKS.noSuchOne("8 risk: consignment " + wrong, () -> house.risk(wrong));
         }
         CHECKS.badState("8 risk: under way", () -> house.risk(number));
         house.arrive(number, 0);
@@ -101,10 +101,10 @@ public final class AtTheDoorTest {
         BorderHouse house = new BorderHouse();
         house.setGuarantee(0, 100);
         for (int wrong : WRONG_NUMBERS) {
-            CHECKS.tooLow("9 mustSearch: consignment " + wrong, () -> house.mustSearch(wrong));
+            CHECKS.noSuchOne("9 mustSearch: consignment " + wrong, () -> house.mustSearch(wrong));
         }
         int number = Scenes.announced(house, 0, 0, new int[] {1, 0, 0, 0, 0, 0});
-        CHECKS.tooLow("9 mustSearch: consignment 1", () -> house.mustSearch(1));
+        CHECKS.noSuchOne("9 mustSearch: consignment 1", () -> house.mustSearch(1));
         house.setRisk(0, 0);
         CHECKS.due("9 mustSearch: under way", false, () -> house.mustSearch(number));
         house.setRisk(25, 0);
@@ -173,8 +173,8 @@ public final class AtTheDoorTest {
         house.setGuarantee(0, 100);
         int number = Scenes.announced(house, 0, 3, new int[] {5, 0, 0, 0, 0, 0});
         for (int wrong : WRONG_NUMBERS) {
-            CHECKS.tooLow("10 search: consignment " + wrong, () -> house.search(wrong, 0, 1));
-            CHECKS.tooLow("10 search: consignment comes first", () -> house.search(wrong, 6, 101));
+            CHECKS.noSuchOne("10 search: consignment " + wrong, () -> house.search(wrong, 0, 1));
+            CHECKS.noSuchOne("10 search: consignment comes first", () -> house.search(wrong, 6, 101));
         }
         CHECKS.badState("10 search: under way", () -> house.search(number, 0, 4));
         for (int sort : new int[] {-1, 6, Integer.MIN_VALUE, Integer.MAX_VALUE}) {
@@ -287,8 +287,8 @@ public final class AtTheDoorTest {
         house.setRisk(25, 1);
         int number = Scenes.announced(house, 0, 3, new int[] {5, 0, 0, 0, 0, 0});
         for (int wrong : WRONG_NUMBERS) {
-            CHECKS.tooLow("11 bond: consignment " + wrong, () -> house.bond(wrong, 0));
-            CHECKS.tooLow("11 bond: consignment comes first", () -> house.bond(wrong, 3));
+            CHECKS.noSuchOne("11 bond: consignment " + wrong, () -> house.bond(wrong, 0));
+            CHECKS.noSuchOne("11 bond: consignment comes first", () -> house.bond(wrong, 3));
         }
         CHECKS.badState("11 bond: under way", () -> house.bond(number, 0));
         for (int store : new int[] {-1, 3, Integer.MIN_VALUE, Integer.MAX_VALUE}) {

@@ -33,7 +33,7 @@ final class Checks {
         });
     }
 
-    void tooLow(String what, Action action) {
+    void noSuchOne(String what, Action action) {
         dueThrow(what, IndexOutOfBoundsException.class, action);
     }
 

@@ -93,8 +93,8 @@ public final class InBondTest {
         house.setGuarantee(0, 100);
         int number = Scenes.announced(house, 0, 3, new int[] {5, 0, 0, 0, 0, 0});
         for (int wrong : WRONG_NUMBERS) {
-            CHECKS.tooLow("12 move: consignment " + wrong, () -> house.move(wrong, 0, 0, 1, 1));
-            CHECKS.tooLow("12 move: consignment comes first", () -> house.move(wrong, 6, 3, 3, 0));
+            CHECKS.noSuchOne("12 move: consignment " + wrong, () -> house.move(wrong, 0, 0, 1, 1));
+            CHECKS.noSuchOne("12 move: consignment comes first", () -> house.move(wrong, 6, 3, 3, 0));
         }
         CHECKS.badArgument("12 move: sort before what it has", () -> house.move(number, 6, 0, 1, 1));
         CHECKS.badArgument("12 move: from before what it has", () -> house.move(number, 0, 3, 1, 1));
@@ -177,8 +177,8 @@ public final class InBondTest {
         BorderHouse house = new BorderHouse();
         int number = Scenes.inBond(house, 0, 0, 10, 0);
         for (int wrong : WRONG_NUMBERS) {
-            CHECKS.tooLow(name + ": consignment " + wrong, () -> leaving.out(house, wrong, 0, 0, 1));
-            CHECKS.tooLow(name + ": consignment comes first", () -> leaving.out(house, wrong, 6, 3, 0));
+            CHECKS.noSuchOne(name + ": consignment " + wrong, () -> leaving.out(house, wrong, 0, 0, 1));
+            CHECKS.noSuchOne(name + ": consignment comes first", () -> leaving.out(house, wrong, 6, 3, 0));
         }
         for (int sort : new int[] {-1, 6, Integer.MIN_VALUE, Integer.MAX_VALUE}) {
             CHECKS.badArgument(name + ": sort " + sort, () -> leaving.out(house, number, sort, 0, 1));

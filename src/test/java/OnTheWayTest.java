@@ -26,7 +26,7 @@ public final class OnTheWayTest {
         }
         CHECKS.badState("5 announce: the 16th", () -> house.announce(0, 0));
         CHECKS.badState("5 announce: the 16th again", () -> house.announce(3, 999));
-        CHECKS.tooLow("5 announce: there is no number 15", () -> house.state(15));
+        CHECKS.noSuchOne("5 announce: there is no number 15", () -> house.state(15));
         CHECKS.badArgument("5 announce: the trader comes first", () -> house.announce(4, 0));
         CHECKS.badArgument("5 announce: the seal comes first", () -> house.announce(0, 1000));
         BorderHouse gone = new BorderHouse();
@@ -45,7 +45,7 @@ public final class OnTheWayTest {
         for (int seal : new int[] {-1, 1000, Integer.MIN_VALUE, Integer.MAX_VALUE}) {
             CHECKS.badArgument("5 announce: seal " + seal, () -> house.announce(0, seal));
         }
-        CHECKS.tooLow("5 announce: refused, so there is none", () -> house.state(0));
+        CHECKS.noSuchOne("5 announce: refused, so there is none", () -> house.state(0));
         CHECKS.due("5 announce: the edges are in", 0, () -> house.announce(3, 999));
         CHECKS.due("5 announce: the edges are in", 1, () -> house.announce(0, 0));
     }
@@ -70,8 +70,8 @@ public final class OnTheWayTest {
         int one = house.announce(0, 0);
         house.amend(one, 2, 5);
         for (int number : new int[] {-1, 1, 14, 15, Integer.MIN_VALUE, Integer.MAX_VALUE}) {
-            CHECKS.tooLow("6 amend: consignment " + number, () -> house.amend(number, 0, 1));
-            CHECKS.tooLow("6 amend: consignment comes first", () -> house.amend(number, 6, 101));
+            CHECKS.noSuchOne("6 amend: consignment " + number, () -> house.amend(number, 0, 1));
+            CHECKS.noSuchOne("6 amend: consignment comes first", () -> house.amend(number, 6, 101));
         }
         for (int sort : new int[] {-1, 6, Integer.MIN_VALUE, Integer.MAX_VALUE}) {
             CHECKS.badArgument("6 amend: sort " + sort, () -> house.amend(one, sort, 1));
@@ -165,8 +165,8 @@ public final class OnTheWayTest {
         house.setRisk(25, 2);
         int empty = house.announce(0, 9);
         for (int number : new int[] {-1, 1, 14, 15, Integer.MIN_VALUE, Integer.MAX_VALUE}) {
-            CHECKS.tooLow("7 arrive: consignment " + number, () -> house.arrive(number, 0));
-            CHECKS.tooLow("7 arrive: consignment comes first", () -> house.arrive(number, 1000));
+            CHECKS.noSuchOne("7 arrive: consignment " + number, () -> house.arrive(number, 0));
+            CHECKS.noSuchOne("7 arrive: consignment comes first", () -> house.arrive(number, 1000));
         }
         for (int seal : new int[] {-1, 1000, Integer.MIN_VALUE, Integer.MAX_VALUE}) {
             CHECKS.badArgument("7 arrive: seal " + seal, () -> house.arrive(empty, seal));

@@ -20,7 +20,7 @@ public final class RulesTest {
     private static void newObject() {
         BorderHouse house = new BorderHouse();
         for (int number : new int[] {Integer.MIN_VALUE, -1, 0, 14, 15, Integer.MAX_VALUE}) {
-            CHECKS.tooLow("1 new: state(" + number + ")", () -> house.state(number));
+            CHECKS.noSuchOne("1 new: state(" + number + ")", () -> house.state(number));
         }
         for (int sort = 0; sort < 6; sort++) {
             for (int store = 0; store < 3; store++) {
@@ -37,7 +37,7 @@ public final class RulesTest {
         }
         CHECKS.due("1 new: first number", 0, () -> house.announce(0, 0));
         BorderHouse other = new BorderHouse();
-        CHECKS.tooLow("1 new: two objects share nothing", () -> other.state(0));
+        CHECKS.noSuchOne("1 new: two objects share nothing", () -> other.state(0));
         CHECKS.due("1 new: two objects share no guarantee", 0, () -> other.setGuarantee(0, 0));
     }
 

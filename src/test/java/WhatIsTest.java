@@ -123,9 +123,9 @@ public final class WhatIsTest {
         BorderHouse house = new BorderHouse();
         int number = Scenes.inBond(house, 0, 0, 1, 0);
         for (int wrong : WRONG_NUMBERS) {
-            CHECKS.tooLow("15 state: consignment " + wrong, () -> house.state(wrong));
-            CHECKS.tooLow("16 manifest: consignment " + wrong, () -> house.manifest(wrong, 0));
-            CHECKS.tooLow("16 manifest: consignment comes first", () -> house.manifest(wrong, 6));
+            CHECKS.noSuchOne("15 state: consignment " + wrong, () -> house.state(wrong));
+            CHECKS.noSuchOne("16 manifest: consignment " + wrong, () -> house.manifest(wrong, 0));
+            CHECKS.noSuchOne("16 manifest: consignment comes first", () -> house.manifest(wrong, 6));
         }
         for (int sort : new int[] {-1, 6, Integer.MIN_VALUE, Integer.MAX_VALUE}) {
             CHECKS.badArgument("16 manifest: sort " + sort, () -> house.manifest(number, sort));
