@@ -42,33 +42,33 @@ final class Model {
     private int arrivals;
 
     /** What a call answers: an Integer, a Boolean, "nothing", or "throws." and the name. */
-    Object call(String name, int a, int b, int c, int d, int e) {
+    Object call(String name, int... a) {
         switch (name) {
-            case "setSort": return setSort(a, b, c);
-            case "setRisk": return setRisk(a, b);
-            case "setGuarantee": return setGuarantee(a, b);
-            case "announce": return announce(a, b);
-            case "stored": return bad(a, 0, 5) || bad(b, 0, 2) ? ARGUMENT : (Object) storedAll(a, b);
-            case "held": return bad(a, 0, 3) ? ARGUMENT : (Object) heldOf(a);
-            case "paid": return bad(a, 0, 3) ? ARGUMENT : (Object) paidOf(a);
+            case "setSort": return setSort(a[0], a[1], a[2]);
+            case "setRisk": return setRisk(a[0], a[1]);
+            case "setGuarantee": return setGuarantee(a[0], a[1]);
+            case "announce": return announce(a[0], a[1]);
+            case "stored": return bad(a[0], 0, 5) || bad(a[1], 0, 2) ? ARGUMENT : (Object) storedAll(a[0], a[1]);
+            case "held": return bad(a[0], 0, 3) ? ARGUMENT : (Object) heldOf(a[0]);
+            case "paid": return bad(a[0], 0, 3) ? ARGUMENT : (Object) paidOf(a[0]);
             default: break;
         }
-        if (a < 0 || a >= loads.size()) {
+        if (a[0] < 0 || a[0] >= loads.size()) {
             return INDEX;
         }
-        Load load = loads.get(a);
+        Load load = loads.get(a[0]);
         switch (name) {
-            case "amend": return amend(load, b, c);
-            case "arrive": return arrive(load, b);
+            case "amend": return amend(load, a[1], a[2]);
+            case "arrive": return arrive(load, a[1]);
             case "risk": return stateOf(load) == 0 ? STATE : (Object) riskOf(load);
             case "mustSearch": return toSearch(load);
-            case "search": return search(load, b, c);
-            case "bond": return bond(load, b);
-            case "move": return move(load, b, c, d, e);
-            case "free": return leave(load, b, c, d, true);
-            case "sendBack": return leave(load, b, c, d, false);
+            case "search": return search(load, a[1], a[2]);
+            case "bond": return bond(load, a[1]);
+            case "move": return move(load, a[1], a[2], a[3], a[4]);
+            case "free": return leave(load, a[1], a[2], a[3], true);
+            case "sendBack": return leave(load, a[1], a[2], a[3], false);
             case "state": return stateOf(load);
-            case "manifest": return bad(b, 0, 5) ? ARGUMENT : (Object) load.quantity[b];
+            case "manifest": return bad(a[1], 0, 5) ? ARGUMENT : (Object) load.quantity[a[1]];
             default: throw new AssertionError(name);
         }
     }
