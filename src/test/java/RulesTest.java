@@ -12,6 +12,7 @@ public final class RulesTest {
         setRiskMarkEdges();
         setRiskSample();
         setRiskRefuses();
+        refusedHalfGoodHalfBad();
         setGuaranteeAnswers();
         setGuaranteeRefuses();
         CHECKS.finish();
@@ -185,6 +186,27 @@ public final class RulesTest {
         CHECKS.due("3 setRisk: refused, so the mark stays", false, () -> house.mustSearch(number));
         int next = Scenes.atDoor(house, 0, 0, 1);
         CHECKS.due("3 setRisk: refused, so the sample stays", false, () -> house.mustSearch(next));
+    }
+
+    /** Each on an object of its own, where the good half would be seen. */
+    private static void refusedHalfGoodHalfBad() {
+        BorderHouse sample = new BorderHouse();
+        CHECKS.badArgument("3 setRisk: a bad mark with a good sample", () -> sample.setRisk(201, 1));
+        int first = Scenes.announced(sample, 0, 1, new int[] {1, 0, 0, 0, 0, 0});
+        CHECKS.due("3 setRisk: refused, so no sample", false, () -> sample.arrive(first, 1));
+        BorderHouse mark = new BorderHouse();
+        int risky = Scenes.atDoor(mark, 0, 0, 1);
+        CHECKS.badArgument("3 setRisk: a good mark with a bad sample", () -> mark.setRisk(0, 11));
+        CHECKS.due("3 setRisk: refused, so no other mark", false, () -> mark.mustSearch(risky));
+        BorderHouse duty = new BorderHouse();
+        int bonded = Scenes.atDoor(duty, 0, 0, 1);
+        duty.setGuarantee(0, 1000);
+        CHECKS.badArgument("2 setSort: a good duty with a bad weight", () -> duty.setSort(0, 9, 21));
+        CHECKS.due("2 setSort: refused, so no other duty", 1, () -> duty.bond(bonded, 0));
+        BorderHouse weight = new BorderHouse();
+        int weighed = Scenes.atDoor(weight, 0, 0, 1);
+        CHECKS.badArgument("2 setSort: a bad duty with a good weight", () -> weight.setSort(0, 51, 9));
+        CHECKS.due("2 setSort: refused, so no other weight", 0, () -> weight.risk(weighed));
     }
 
     private static void setGuaranteeAnswers() {
